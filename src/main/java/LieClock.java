@@ -507,16 +507,8 @@ public final class LieClock {
             }
         }
 
-        int kindAt(int i) {
-            return i >= 0 && i < size ? kinds[i] : END;
-        }
-
         int placeAt(int i) {
             return i >= 0 && i < size ? places[i] : 0;
-        }
-
-        long valueAt(int i) {
-            return i >= 0 && i < size ? values[i] : 0;
         }
 
         private static int skipBlanks(Tape tape, int from) {
@@ -607,6 +599,8 @@ public final class LieClock {
         private final Tokens tokens = new Tokens();
         private Told into;
         private int at;
+        /** The kind of the token ahead; END behind a fault, so that all loops stop. */
+        private int kind;
         private int fault;
         private int softFault;
         private int softPlace;
@@ -620,10 +614,20 @@ public final class LieClock {
             into = target;
             into.clear();
             at = 0;
+            kind = tokens.kinds[0];
             fault = 0;
             softFault = 0;
-            for (int i = 0; i <= MAX_TOKENS && kind() != END; i++) {
-                tell();
+            for (int i = 0; i <= MAX_TOKENS && kind != END; i++) {
+                switch (kind) {
+                    case FACT: tellFact(); break;
+                    case WITNESS: tellWitness(); break;
+                    case WORD: tellWord(); break;
+                    case CASE: tellCase(); break;
+                    case BACK: tellLaw(into.back); break;
+                    case FORTH: tellLaw(into.forth); break;
+                    case CLOCK: tellClock(); break;
+                    default: fail(SYNTAX);
+                }
             }
             into.finish();
             return fault != 0 ? fault : softFault;
@@ -636,40 +640,11 @@ public final class LieClock {
             return softFault != 0 ? softPlace : NONE;
         }
 
-        /** The kind of the token ahead; END behind a fault, so that all loops stop. */
-        private int kind() {
-            return fault == 0 ? tokens.kindAt(at) : END;
-        }
-
         private void fail(int number) {
             if (fault == 0) {
                 fault = number;
+                kind = END;
             }
-        }
-
-        /** Goes behind the token ahead if it is of that kind. */
-        private boolean accept(int kind) {
-            if (kind() != kind) {
-                return false;
-            }
-            if (at >= MAX_TOKENS) {
-                fail(ROOM);
-                return false;
-            }
-            at++;
-            return true;
-        }
-
-        private void expect(int kind) {
-            if (!accept(kind)) {
-                fail(SYNTAX);
-            }
-        }
-
-        /** Goes behind a token of that kind and answers its value; 0 behind a fault. */
-        private long take(int kind) {
-            expect(kind);
-            return fault == 0 ? tokens.valueAt(at - 1) : 0;
         }
 
         /** A fault of the token just taken. */
@@ -680,28 +655,46 @@ public final class LieClock {
             }
         }
 
-        private void tell() {
-            switch (kind()) {
-                case FACT: tellFact(); break;
-                case WITNESS: tellWitness(); break;
-                case WORD: tellWord(); break;
-                case CASE: tellCase(); break;
-                case BACK: tellLaw(BACK, into.back); break;
-                case FORTH: tellLaw(FORTH, into.forth); break;
-                case CLOCK: tellClock(); break;
-                default: fail(SYNTAX);
+        /** Goes behind the token ahead if it is of that kind. */
+        private boolean accept(int wanted) {
+            if (kind != wanted || fault != 0) {
+                return false;
+            }
+            if (at >= MAX_TOKENS) {
+                fault = ROOM;
+                kind = END;
+                return false;
+            }
+            at++;
+            kind = tokens.kinds[at];
+            return true;
+        }
+
+        private void expect(int wanted) {
+            if (!accept(wanted)) {
+                fail(SYNTAX);
             }
         }
 
-        private void begin(int kind, int had, int most) {
+        /** Goes behind a token of that kind and answers its value; 0 behind a fault. */
+        private long take(int wanted) {
+            if (!accept(wanted)) {
+                fail(SYNTAX);
+                return 0;
+            }
+            return tokens.values[at - 1];
+        }
+
+        /** Goes behind the token that begins what there may be so many of. */
+        private void begin(int had, int most) {
             if (had >= most) {
                 fail(ROOM);
             }
-            expect(kind);
+            accept(kind);
         }
 
         private void tellFact() {
-            begin(FACT, into.facts, MAX_FACTS);
+            begin(into.facts, MAX_FACTS);
             long name = takeNewName();
             boolean yes = accept(YES);
             if (!yes) {
@@ -715,7 +708,7 @@ public final class LieClock {
         }
 
         private void tellWitness() {
-            begin(WITNESS, into.witnesses, MAX_WITNESSES);
+            begin(into.witnesses, MAX_WITNESSES);
             long name = takeNewName();
             expect(';');
             if (fault == 0) {
@@ -724,7 +717,7 @@ public final class LieClock {
         }
 
         private void tellWord() {
-            begin(WORD, into.words, MAX_WORDS);
+            begin(into.words, MAX_WORDS);
             int witness = into.witnessNamed(take(NAME));
             if (witness < 0) {
                 failSoftly(UNKNOWN);
@@ -739,7 +732,7 @@ public final class LieClock {
         }
 
         private void tellCase() {
-            begin(CASE, into.cases, MAX_CASES);
+            begin(into.cases, MAX_CASES);
             long name = takeNewName();
             int due = takeMinute();
             expect('=');
@@ -750,15 +743,15 @@ public final class LieClock {
             }
         }
 
-        private void tellLaw(int kind, Law law) {
-            expect(kind);
+        private void tellLaw(Law law) {
+            accept(kind);
             law.clear();
             sum(law, 0);
             expect(';');
         }
 
         private void tellClock() {
-            expect(CLOCK);
+            accept(kind);
             into.begin = takeMinute();
             expect(';');
         }
@@ -802,38 +795,36 @@ public final class LieClock {
             for (int i = 0; i <= MAX_TOKENS && accept(NOT); i++) {
                 turned = !turned;
             }
-            long states;
-            if (kind() == '(') {
-                enter(depth);
-                states = fault == 0 ? cond(depth + 1) : 0;
+            long states = 0;
+            if (kind == '(') {
+                if (enter(depth)) {
+                    states = cond(depth + 1);
+                }
                 expect(')');
             } else {
-                states = factAhead();
+                int fact = into.factNamed(take(NAME));
+                if (fact >= 0 && fact < MAX_FACTS) {
+                    states = WHERE_TRUE[fact];
+                } else {
+                    failSoftly(UNKNOWN);
+                }
             }
             return turned ? ~states : states;
         }
 
-        private void enter(int depth) {
+        /** Goes behind a ( if it does not stand too deep. */
+        private boolean enter(int depth) {
             if (depth >= MAX_DEPTH) {
                 fail(ROOM);
             }
-            expect('(');
-        }
-
-        private long factAhead() {
-            int fact = into.factNamed(take(NAME));
-            if (fact < 0 || fact >= MAX_FACTS) {
-                failSoftly(UNKNOWN);
-                return 0;
-            }
-            return WHERE_TRUE[fact];
+            return accept('(');
         }
 
         private void sum(Law law, int depth) {
             product(law, depth);
-            for (int i = 0; i <= MAX_TOKENS && (kind() == '+' || kind() == '-'); i++) {
-                int sign = kind();
-                expect(sign);
+            for (int i = 0; i <= MAX_TOKENS && (kind == '+' || kind == '-'); i++) {
+                int sign = kind;
+                accept(sign);
                 product(law, depth);
                 law.add(-sign);
             }
@@ -841,25 +832,24 @@ public final class LieClock {
 
         private void product(Law law, int depth) {
             unit(law, depth);
-            for (int i = 0; i <= MAX_TOKENS && (kind() == '*' || kind() == '/'); i++) {
-                int sign = kind();
-                expect(sign);
+            for (int i = 0; i <= MAX_TOKENS && (kind == '*' || kind == '/'); i++) {
+                int sign = kind;
+                accept(sign);
                 unit(law, depth);
                 law.add(-sign);
             }
         }
 
         private void unit(Law law, int depth) {
-            int kind = kind();
-            if (kind == '(') {
-                enter(depth);
-                if (fault == 0) {
+            int first = kind;
+            if (first == '(') {
+                if (enter(depth)) {
                     sum(law, depth + 1);
                 }
                 expect(')');
-            } else if (kind == OPEN || kind >= LIES && kind <= HEARD) {
-                expect(kind);
-                law.add(-kind);
+            } else if (first == OPEN || first >= LIES && first <= HEARD) {
+                accept(first);
+                law.add(-first);
             } else {
                 law.add((int) take(INT));
             }
