@@ -21,6 +21,7 @@ public final class PromiseTest {
         hearing();
         say();
         laws();
+        dayEnds();
         look();
         pause();
         undo();
@@ -42,6 +43,7 @@ public final class PromiseTest {
         hold();
         restore();
         count();
+        full();
         Check.end();
     }
 
@@ -103,13 +105,15 @@ public final class PromiseTest {
         LieClock x = Check.court(PAIR);
         x.say(0);
         x.write(1);
+        x.hold(0);
+        x.hold(1);
         x.hold(2);
         Check.due("faulty read", Check.read(x, "fact a yes"), 1);
         Check.due("count(9)", x.count(9), 0);
         Check.due("count(5)", x.count(5), 1);
         Check.due("count(8)", x.count(8), 1);
         Check.due("count(10)", x.count(10), 1);
-        Check.due("count(11)", x.count(11), 1);
+        Check.due("count(11)", x.count(11), 3);
         Check.due("clock()", x.clock(), 1);
         Check.due("good read", Check.read(x, "fact b no;clock 9;"), 0);
         Check.due("clock()", x.clock(), 9);
@@ -132,6 +136,11 @@ public final class PromiseTest {
         Check.fault("fact a yes  ", 1, 12);
         Check.fault("fact abcdefgh yes;", 0, -1);
         Check.fault("fact abcdefghi yes;", 1, 5);
+        Check.fault("fact zzzzzzzz yes;witness az;word az=zzzzzzzz;", 0, -1);
+        Check.fault("fact a{ yes;", 1, 6);
+        Check.fault("fact ` yes;", 1, 5);
+        Check.fault("clock 09;clock 90;", 0, -1);
+        Check.fault("clock :;", 1, 6);
         Check.fault("fact open yes;", 1, 5);
         Check.fault("fact minute yes;", 1, 5);
         Check.fault("Fact a yes;", 1, 0);
@@ -436,6 +445,17 @@ public final class PromiseTest {
         Check.due("clock()", x.clock(), -130);
     }
 
+    /** The minute is the rest by 1440: a day's last one, then the next day's first. */
+    private static void dayEnds() {
+        int[] clocks = {1438, 1439, 1440, 2878, 2879};
+        int[] rests = {1439, 0, 1, 1439, 0};
+        for (int i = 0; i < clocks.length; i++) {
+            LieClock x = Check.court("fact a yes;witness w;word w self=a;forth minute-1400;clock " + clocks[i] + ";");
+            x.say(0);
+            Check.due("clock() from " + clocks[i], x.clock(), clocks[i] + 1 + Math.max(0, rests[i] - 1400));
+        }
+    }
+
     /** Ints wrap: 9999 to the sixth, less 1, in 32 bits; then held to 0 .. 120. */
     private static int held(String law, int due) {
         if (!law.contains("9999*")) return due;
@@ -548,6 +568,19 @@ public final class PromiseTest {
         x.pause(3);
         Check.due("ahead(1, 0, 0)", x.ahead(1, 0, 0), 1);
         Check.due("ahead(0, 1, 0)", x.ahead(0, 1, 0), -2);
+        // Asked one behind the other, with other cases and behind other things.
+        x = Check.court("fact a yes;witness w;word w=a;case p 3=a;case q 2=a;case r 4=a;");
+        Check.due("ahead(0, 2, 0)", x.ahead(0, 2, 0), 3);
+        Check.due("ahead(1, 2, 0)", x.ahead(1, 2, 0), 2);
+        Check.due("ahead(1, 0, 0)", x.ahead(1, 0, 0), 2);
+        Check.due("ahead(2, 0, 0)", x.ahead(2, 0, 0), -2);
+        Check.due("ahead(2, 1, 0)", x.ahead(2, 1, 0), -2);
+        Check.due("ahead(0, 1, 0)", x.ahead(0, 1, 0), -2);
+        x.say(0);
+        x.say(0);
+        Check.due("ahead(0, 1, 0)", x.ahead(0, 1, 0), 1);
+        x.undo();
+        Check.due("ahead(0, 1, 0)", x.ahead(0, 1, 0), -2);
         // A lie that is caught brings the clock back to the minute.
         x = Check.court("fact a yes;witness w;word w=a;word w=not a;case p 3=a;case q 9=a;back 4;clock 3;");
         x.say(0);
@@ -570,8 +603,19 @@ public final class PromiseTest {
         Check.due("aheadAt(2, 1, 0)", x.aheadAt(2, 1, 0), -1);
         x = Check.court("fact a yes;witness w;word w=a;word w=not a;case p 3=a;case q 9=a;back 4;clock 3;");
         x.say(0);
+        aheadByHeard();
         // From 4: 5, then 6 and back to 2, then 3; set back to 3 itself, by (0, 0, 1), it would not be heard.
         int[] row = {0, 1, 0};
+        for (int i = 0; i < 3; i++) Check.due("aheadAt(0, 1, " + i + ")", x.aheadAt(0, 1, i), row[i]);
+    }
+
+    /** Two ways to the same words at the same minute, by one of which r was heard: only the other one goes on to p. */
+    private static void aheadByHeard() {
+        LieClock x = Check.court("fact a yes;witness w;witness v;word w=not a;word w self=a;word v self=a;"
+            + "case p 3=a;case q 100=a;case r 9=a;back minute;forth (said-1)*10+(1-heard)*2;clock 3;");
+        int[] row = {1, 0, 2};
+        Check.due("ahead(0, 1, 0)", x.ahead(0, 1, 0), 3);
+        Check.due("ahead(0, 1, 1)", x.ahead(0, 1, 1), 1);
         for (int i = 0; i < 3; i++) Check.due("aheadAt(0, 1, " + i + ")", x.aheadAt(0, 1, i), row[i]);
     }
 
@@ -592,6 +636,13 @@ public final class PromiseTest {
         Check.due("order(127, true)", x.order(127, true), -1000000);
         x.pause(2);
         Check.due("order(63, true)", x.order(63, true), 8);
+        x.undo();
+        Check.due("order(63, true)", x.order(63, true), 6);
+        x.hold(0);
+        x.pause(2);
+        Check.due("order(63, true)", x.order(63, true), 8);
+        x.restore(0);
+        Check.due("order(63, true)", x.order(63, true), 6);
     }
 
     private static void orderAt() {
@@ -637,6 +688,16 @@ public final class PromiseTest {
         Check.due("never(127, 1)", x.never(127, 1), -1);
         Check.due("never(63, 6)", x.never(63, 6), 0);
         Check.due("never(63, 7)", x.never(63, 7), 1);
+        // No other words than those of the set.
+        x = Check.court("fact a yes;witness w;word w=a;word w self=a;forth 5;");
+        Check.due("never(2, 3)", x.never(2, 3), 0);
+        Check.due("never(1, 3)", x.never(1, 3), 1);
+        // At its top the clock stays: it does not come to it again.
+        for (int i = 0; i < 33; i++) x.pause(3000);
+        x.pause(999);
+        Check.due("never(1, 100000)", x.never(1, 100000), 0);
+        x.pause(1);
+        Check.due("never(1, 100000)", x.never(1, 100000), 1);
     }
 
     private static void smallest() {
@@ -776,6 +837,27 @@ public final class PromiseTest {
         x.write(4);
         x.write(11);
         Check.due("fits(3)", x.fits(3), 2);
+        // The same words at the same minute, but r heard or not: (0, 1, 2) alone comes to 8.
+        x = Check.court("fact a yes;witness w;witness v;word w=not a;word w self=a;word v self=a;case r 5=a;"
+            + "back minute;forth (said-1)*10+heard*7;");
+        x.write(1);
+        x.write(0);
+        x.write(8);
+        Check.due("fits(2)", x.fits(2), 2);
+        Check.due("fits(3)", x.fits(3), 1);
+        Check.due("surely(3)", x.surely(3), 7);
+        x.burn();
+        x.write(1);
+        x.write(0);
+        x.write(1);
+        Check.due("fits(3)", x.fits(3), 5);
+        Check.due("surely(3)", x.surely(3), 3);
+        x = Check.court(PAIR);
+        for (int i = 1; i <= 5; i++) x.write(i);
+        Check.due("fits(5)", x.fits(5), 2);
+        x.burn();
+        for (int i = 2; i <= 6; i++) x.write(i);
+        Check.due("fits(5)", x.fits(5), 0);
     }
 
     private static void surely() {
@@ -870,6 +952,38 @@ public final class PromiseTest {
         Check.due("count(11)", x.count(11), 1);
         Check.due("empty read", x.read(), 0);
         Check.due("restore(1)", x.restore(1), false);
+    }
+
+    /** As many of all as there can be. */
+    private static void full() {
+        Check.part("as many as can be");
+        StringBuilder b = new StringBuilder();
+        for (char c = 'a'; c < 'g'; c++) b.append("fact ").append(c).append(" yes;witness w").append(c).append(';');
+        for (int i = 0; i < 16; i++) b.append("word w").append((char) ('a' + i % 6)).append(i < 6 ? "=" : "=not ")
+            .append((char) ('a' + i % 6)).append(';');
+        for (char c = 'a'; c < 'i'; c++) b.append("case c").append(c).append(" 3=a;");
+        LieClock x = Check.court(b.append("back 2;").toString());
+        for (int what = 0; what < 4; what++) Check.due("count", x.count(what), new int[] {6, 6, 16, 8}[what]);
+        Check.due("states(0)", x.states(0), 64);
+        Check.due("states(63)", x.states(63), 1);
+        Check.due("smallest()", x.smallest(), 65);
+        Check.due("settled(7)", x.settled(7), 1);
+        Check.due("looks(15)", x.looks(15), 8);
+        Check.due("ahead(6, 7, 0)", x.ahead(6, 7, 0), -2);
+        for (int i = 0; i < 16; i++) Check.due("say(" + i + ")", x.say(i), i < 6 ? 0 : 1);
+        Check.due("clock()", x.clock(), 16 - 20);
+        Check.due("count(6)", x.count(6), 10);
+        // On the way to 6, and once more from 2 when it has been set back so far.
+        Check.due("count(7)", x.count(7), 16);
+        Check.due("share(5)", x.share(5), -2);
+        Check.due("witness(3, 1)", x.witness(3, 1), 2);
+        for (int f = 0; f < 6; f++) Check.due("look(" + f + ")", x.look(f), 0);
+        Check.due("states(63)", x.states(63), 1);
+        Check.due("smallest()", x.smallest(), 64);
+        x.write(1);
+        x.write(0);
+        Check.due("fits(2)", x.fits(2), 20);
+        Check.due("liars(2)", x.liars(2), 0);
     }
 
     private static void count() {
