@@ -70,6 +70,7 @@ public final class LieClock {
     };
 
     private final Tape tape;
+    private int faultPlace = NONE;
     private final Parser parser;
     private Told told;
     private Told spare;
@@ -136,7 +137,7 @@ public final class LieClock {
     public int read() {
         int fault = parser.parse(tape, spare);
         tape.length = 0;
-        tape.faultPlace = parser.faultPlace();
+        faultPlace = parser.faultPlace();
         if (fault != 0) {
             return fault;
         }
@@ -154,7 +155,7 @@ public final class LieClock {
     }
 
     public int place() {
-        return tape.faultPlace;
+        return faultPlace;
     }
 
     public int clock() {
@@ -449,11 +450,10 @@ public final class LieClock {
         orders.known = false;
     }
 
-    /** The bytes that wait to be read, and where the latest reading failed. */
+    /** The bytes that wait to be read. */
     private static final class Tape {
         private final byte[] bytes = new byte[MAX_BYTES];
         private int length;
-        private int faultPlace = NONE;
 
         void append(int fourBytes) {
             for (int shift = 24; shift >= 0 && length < MAX_BYTES; shift -= 8) {
@@ -470,7 +470,6 @@ public final class LieClock {
         void copyFrom(Tape other) {
             System.arraycopy(other.bytes, 0, bytes, 0, other.length);
             length = other.length;
-            faultPlace = other.faultPlace;
         }
     }
 

@@ -481,7 +481,6 @@ final class Model {
     List<Integer> book = new ArrayList<>();
     Court[] slots = new Court[3];
     byte[][] slotTapes = new byte[3][];
-    int[] slotPlaces = new int[3];
 
     int feed(int... five) {
         if (tape.length + 20 > 2000) return -1;
@@ -846,7 +845,6 @@ final class Model {
         if (!in(slot, 3)) return false;
         slots[slot] = now.copy();
         slotTapes[slot] = tape.clone();
-        slotPlaces[slot] = place;
         return true;
     }
 
@@ -854,7 +852,6 @@ final class Model {
         if (!in(slot, 3) || slots[slot] == null) return false;
         now = slots[slot].copy();
         tape = slotTapes[slot].clone();
-        place = slotPlaces[slot];
         past.clear();
         return true;
     }

@@ -950,6 +950,12 @@ public final class PromiseTest {
         Check.due("clock()", x.clock(), 2);
         Check.due("faulty read", x.read(), 1);
         Check.due("count(11)", x.count(11), 1);
+        // The place is the latest read()'s, whatever a slot holds.
+        Check.due("place()", x.place(), 0);
+        Check.due("restore(1)", x.restore(1), true);
+        Check.due("place()", x.place(), 0);
+        Check.due("count(9)", x.count(9), 20);
+        Check.due("back(20)", x.back(20), 0);
         Check.due("empty read", x.read(), 0);
         Check.due("restore(1)", x.restore(1), false);
     }
