@@ -70,8 +70,43 @@ final class Check {
     /** A text's fault and its place are as due. */
     static void fault(String text, int number, int place) {
         LieClock x = new LieClock();
-        due("read() of '" + text + "'", read(x, text), number);
-        due("place() of '" + text + "'", x.place(), place);
+        int from = Math.max(0, text.length() - 70);
+        String end = (from > 0 ? ".. " : "'") + text.substring(from) + "' of " + text.length() + " bytes";
+        due("read() of " + end, read(x, text), number);
+        due("place() of " + end, x.place(), place);
+    }
+
+    /** All that a small court shows of itself, by calls that change nothing; some hundred calls. */
+    static long[] shown(LieClock x) {
+        long[] row = new long[260];
+        int n = 0;
+        row[n++] = x.clock();
+        row[n++] = x.place();
+        for (int what = 0; what < 12; what++) row[n++] = x.count(what);
+        for (int i = 0; i < 3; i++) {
+            for (int what = 0; what < 2; what++) row[n++] = x.fact(i, what);
+            for (int what = 0; what < 6; what++) row[n++] = x.word(i, what);
+            for (int what = 0; what < 4; what++) row[n++] = x.witness(i, what);
+            for (int what = 0; what < 4; what++) row[n++] = x.hearing(i, what);
+            row[n++] = x.share(i);
+            row[n++] = x.would(i);
+            row[n++] = x.states(i);
+            row[n++] = x.looks(i);
+            row[n++] = x.settled(i);
+            row[n++] = x.fits(i);
+            row[n++] = x.surely(i);
+            row[n++] = x.liars(i);
+        }
+        row[n++] = x.smallest();
+        row[n++] = x.ahead(0, 1, 0);
+        row[n++] = x.order(3, true);
+        row[n++] = x.never(3, 2);
+        return java.util.Arrays.copyOf(row, n);
+    }
+
+    /** Nothing that a court shows has changed. */
+    static void same(String call, long[] now, long[] before) {
+        due("what is shown behind " + call, java.util.Arrays.equals(now, before), true);
     }
 
     static String many(String piece, int n) {
