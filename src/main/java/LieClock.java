@@ -1532,10 +1532,17 @@ public final class LieClock {
             for (int level = 1; level <= MAX_AHEAD && length == 0; level++) {
                 int end = nodes.size;
                 for (int node = begin; node < end && length == 0; node++) {
-                    expand(told, node, level);
+                    if (canCome(told.due[a] - nodes.clocks[node], MAX_AHEAD - level + 1)) {
+                        expand(told, node, level);
+                    }
                 }
                 begin = end;
             }
+        }
+
+        /** Whether so few words may bring the clock to a minute so far off; the last one only from ahead of it. */
+        private static boolean canCome(int off, int wordsLeft) {
+            return off <= wordsLeft * (1 + LONGEST_LAW) && (wordsLeft > 1 || off > 0);
         }
 
         /** Nodes stand by their rows of words, so the first row that is found is the first by numbers. */

@@ -7,6 +7,8 @@ public final class SearchEdgeTest {
     public static void main(String[] args) {
         nothingHappens();
         upToFour();
+        asFarAsCanBe();
+        behindTheClock();
         anyOfThem();
         fewestWords();
         andCaseBNot();
@@ -109,6 +111,32 @@ public final class SearchEdgeTest {
         LieClock x = Check.court(ONE + "word w=a;word w self=a;case p 124=a;case q 125=a;case r 2000=a;forth 999;");
         ahead(x, 0, 2, new int[] {0, 0, 0, 1}, 0);
         notAhead(x, 1, 2);
+    }
+
+    private static void asFarAsCanBe() {
+        Check.part("AHEAD: up to 4; BACK, FORTH: .. held to 0 .. 120");
+        String four = ONE + "word w self=a;word w self=a;word w self=a;word w self=a;case q 2879=a;forth 120;case p ";
+        int[][] farthest = {{0}, {0, 1}, {0, 1, 2}, {0, 1, 2, 3}};
+        int[][] oneMore = {{0, 0}, {0, 0, 1}, {0, 0, 1, 2}};
+        for (int n = 1; n <= 4; n++) {
+            ahead(Check.court(four + 121 * n + "=a;"), 1, 0, farthest[n - 1], 0);
+            LieClock x = Check.court(four + (121 * n + 1) + "=a;");
+            if (n < 4) {
+                ahead(x, 1, 0, oneMore[n - 1], 0);
+            } else {
+                notAhead(x, 1, 0);
+            }
+        }
+    }
+
+    private static void behindTheClock() {
+        Check.part("AHEAD: up to 4; Set back (THE CLOCK) does not stop anywhere");
+        String one = ONE + "word w=a;word w=a and not a;case p 50=a;case q 2879=a;clock 50;back ";
+        int[][] rows = {{1, 0}, {0, 1, 0}, {0, 0, 1, 0}};
+        for (int back = 2; back <= 4; back++) ahead(Check.court(one + back + ";"), 0, 1, rows[back - 2], 1);
+        // 51 less 1 is 50, but not by going forward; 54 less 5 is 49, and no word is left to come to 50.
+        notAhead(Check.court(one + "1;"), 0, 1);
+        notAhead(Check.court(one + "5;"), 0, 1);
     }
 
     private static void anyOfThem() {
